@@ -69,6 +69,11 @@ final class PartitionTest {
             check.refused("sharing at " + region[0], Check.ARGUMENT, before,
                     x -> x.partition(1, region[0], region[1], 0, 0));
         }
+        for (int p = 0; p < 6; p++) {
+            int told = p;
+            check.refused("sharing with " + p, Check.ARGUMENT, x -> x.partition(told, 100, 10, 0, 0),
+                    x -> x.partition((told + 1) % 6, 105, 10, 0, 0));
+        }
         check.accepted("just before", before, x -> x.partition(1, 90, 10, 0, 0));
         check.accepted("just behind", before, x -> x.partition(1, 110, 10, 0, 0));
         check.accepted("its region after a refused call", x -> Check.thrownBy(
