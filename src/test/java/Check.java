@@ -1,21 +1,45 @@
-/** What the tests share: counting wrong answers, refused calls, and words of programs. */
+/** What the tests share: sentences of the document, wrong answers, refused calls, small kernels. */
 final class Check {
     interface Call {
         void on(PartitionKernel x);
+    }
+
+    interface Answer {
+        long of(PartitionKernel x);
+    }
+
+    interface Test {
+        void by(Check check);
     }
 
     static final Class<? extends RuntimeException> STATE = IllegalStateException.class;
     static final Class<? extends RuntimeException> ARGUMENT = IllegalArgumentException.class;
     static final Class<? extends RuntimeException> INDEX = IndexOutOfBoundsException.class;
 
+    static final int LOWEST = Integer.MIN_VALUE;
+    static final int HIGHEST = Integer.MAX_VALUE;
+
+    private int sentences;
     private int made;
     private int wrong;
 
-    void due(String call, long got, long want) {
-        made++;
-        if (got != want) {
-            tellWrong(call + " answered " + got + ", due is " + want);
+    /** The test of one sentence of the document, which is named if it does not hold. */
+    void sentence(String words, Test test) {
+        int madeBefore = made;
+        int wrongBefore = wrong;
+        sentences++;
+        try {
+            test.by(this);
+        } catch (RuntimeException e) {
+            tellWrong("a call that is due throws " + e);
         }
+        if (made == madeBefore || wrong > wrongBefore) {
+            tellWrong("does not hold: \"" + words + "\"");
+        }
+    }
+
+    void due(String call, long got, long want) {
+        due(call, Long.toString(got), Long.toString(want));
     }
 
     void due(String call, String got, String want) {
@@ -42,6 +66,9 @@ final class Check {
         due(call + " throws", thrownBy(accepted, x), "nothing");
     }
 
+    static void nothing(PartitionKernel x) {
+    }
+
     static String thrownBy(Call call, PartitionKernel x) {
         try {
             call.on(x);
@@ -51,9 +78,12 @@ final class Check {
         }
     }
 
-    /** A word of a program; i may be below 0. */
-    static int word(int op, int a, int b, int i) {
-        return op | a << 4 | b << 6 | i << 8;
+    static String answer(Answer answer, PartitionKernel x) {
+        try {
+            return Long.toString(answer.of(x));
+        } catch (RuntimeException e) {
+            return e.getClass().getSimpleName();
+        }
     }
 
     static void put(PartitionKernel x, int p, int... words) {
@@ -72,15 +102,51 @@ final class Check {
         return x;
     }
 
+    /** A sealed kernel with channel 5 from 0 to 1, which have a tick each, by turns. */
+    static PartitionKernel pair(int room, int[] sender, int[] taker) {
+        PartitionKernel x = new PartitionKernel();
+        x.partition(0, 0, 20, 0, 0);
+        x.partition(1, 20, 20, 0, 0);
+        put(x, 0, sender);
+        put(x, 1, taker);
+        x.channel(5, 0, 1, room);
+        x.window(0, 1);
+        x.window(1, 1);
+        x.seal();
+        return x;
+    }
+
+    /** All that told answers of a partition, in one go. */
+    void toldRow(String when, PartitionKernel x, int p, int... want) {
+        for (int what = 0; what < want.length; what++) {
+            due("told(" + p + ", " + what + ") " + when, x.told(p, what), want[what]);
+        }
+    }
+
+    /** All that has answers of a channel, in one go. */
+    void hasRow(String when, PartitionKernel x, int c, int... want) {
+        for (int what = 0; what < want.length; what++) {
+            due("has(" + c + ", " + what + ") " + when, x.has(c, what), want[what]);
+        }
+    }
+
+    void queuedRow(String when, PartitionKernel x, int c, int... want) {
+        for (int k = 0; k < want.length; k++) {
+            due("queued(" + c + ", " + k + ") " + when, x.queued(c, k), want[k]);
+        }
+    }
+
     /** Every answer that tells of the object without changing it; some 200 calls. */
     static String picture(PartitionKernel x) {
         StringBuilder seen = new StringBuilder();
         for (int p = 0; p < 6; p++) {
+            int number = p;
             for (int what = 0; what < 10; what++) {
                 seen.append(x.told(p, what)).append(' ');
             }
             for (int i = 0; i < 6; i++) {
-                seen.append(wordOrNone(x, p, i)).append(' ');
+                int at = i;
+                seen.append(answer(k -> k.peek(number, at), x)).append(' ');
             }
         }
         for (int c = 0; c < 8; c++) {
@@ -89,18 +155,21 @@ final class Check {
         return seen.append(x.current()).append(' ').append(x.ticks()).toString();
     }
 
+    /** What telling all that is free still, the seal and some ticks come to. */
     private static String pictureLater(PartitionKernel x) {
-        String sealed = thrownBy(k -> k.seal(), x);
-        String went = thrownBy(k -> k.step(9), x);
-        return sealed + " " + went + " " + picture(x);
-    }
-
-    private static String wordOrNone(PartitionKernel x, int p, int i) {
-        try {
-            return Integer.toString(x.peek(p, i));
-        } catch (RuntimeException e) {
-            return e.getClass().getSimpleName();
+        StringBuilder seen = new StringBuilder();
+        for (int p = 0; p < 6; p++) {
+            int number = p;
+            seen.append(thrownBy(k -> k.partition(number, 64 * number, 64, 5, 1), x)).append(' ');
         }
+        for (int c = 0; c < 8; c++) {
+            int number = c;
+            seen.append(thrownBy(k -> k.channel(number, 5, 4, 1), x)).append(' ');
+        }
+        seen.append(answer(k -> k.window(PartitionKernel.NONE, 2), x)).append(' ');
+        seen.append(answer(k -> k.seal(), x)).append(' ');
+        seen.append(answer(k -> k.step(9), x)).append(' ');
+        return seen.append(picture(x)).toString();
     }
 
     private static void appendChannel(StringBuilder seen, PartitionKernel x, int c) {
@@ -122,7 +191,7 @@ final class Check {
     }
 
     void end() {
-        System.out.println(made + " answers looked at, " + wrong + " wrong");
+        System.out.println(sentences + " sentences, " + made + " answers looked at, " + wrong + " wrong");
         if (wrong > 0 || made == 0) {
             System.exit(1);
         }

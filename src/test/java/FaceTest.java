@@ -21,36 +21,50 @@ final class FaceTest {
         "int current()",
         "int ticks()",
         "PartitionKernel()",
-        "static final int NONE",
+        "public static final int NONE",
     };
+
+    private static final Class<?> FACE = PartitionKernel.class;
 
     public static void main(String[] args) {
         Check check = new Check();
+        check.sentence("public final class PartitionKernel", FaceTest::classIsPublicAndFinal);
+        check.sentence("public static final int NONE = -1;", FaceTest::noneIsBelowZero);
+        check.sentence("The public face", FaceTest::members);
+        check.end();
+    }
+
+    private static void classIsPublicAndFinal(Check check) {
+        check.due("final", Modifier.isFinal(FACE.getModifiers()) ? 1 : 0, 1);
+        check.due("public", Modifier.isPublic(FACE.getModifiers()) ? 1 : 0, 1);
+    }
+
+    private static void noneIsBelowZero(Check check) {
+        check.due("NONE", PartitionKernel.NONE, -1);
+    }
+
+    private static void members(Check check) {
         Set<String> seen = new TreeSet<>();
-        Class<?> face = PartitionKernel.class;
-        for (Method m : face.getDeclaredMethods()) {
+        for (Method m : FACE.getDeclaredMethods()) {
             if (!Modifier.isPrivate(m.getModifiers())) {
                 seen.add(signature(m));
             }
         }
-        for (Constructor<?> c : face.getDeclaredConstructors()) {
+        for (Constructor<?> c : FACE.getDeclaredConstructors()) {
             seen.add(c.getName() + list("(", c.getParameterTypes(), ")"));
         }
-        for (Field f : face.getDeclaredFields()) {
+        for (Field f : FACE.getDeclaredFields()) {
             if (!Modifier.isPrivate(f.getModifiers())) {
-                seen.add("static final " + f.getType().getName() + " " + f.getName());
+                seen.add(Modifier.toString(f.getModifiers()) + " " + f.getType().getName() + " " + f.getName());
             }
         }
         check.due("the face", seen.toString(), new TreeSet<>(Set.of(DUE)).toString());
-        check.due("final", Modifier.isFinal(face.getModifiers()) ? 1 : 0, 1);
-        check.due("public", Modifier.isPublic(face.getModifiers()) ? 1 : 0, 1);
-        check.due("NONE", PartitionKernel.NONE, -1);
-        check.end();
     }
 
     private static String signature(Method m) {
         String thrown = m.getExceptionTypes().length == 0 ? "" : list(" throws ", m.getExceptionTypes(), "");
-        return m.getReturnType().getName() + " " + m.getName() + list("(", m.getParameterTypes(), ")") + thrown;
+        String notPublic = Modifier.isPublic(m.getModifiers()) ? "" : "hidden ";
+        return notPublic + m.getReturnType().getName() + " " + m.getName() + list("(", m.getParameterTypes(), ")") + thrown;
     }
 
     private static String list(String before, Class<?>[] types, String behind) {

@@ -89,7 +89,7 @@ final class ModelTest {
         if (random.nextInt(200) == 0) {
             return random.nextInt();
         }
-        return Check.word(op, between(0, 3), between(0, 3), i);
+        return Op.word(op, between(0, 3), between(0, 3), i);
     }
 
     private void anyCall(int told, int width) {

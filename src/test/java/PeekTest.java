@@ -2,22 +2,9 @@
 final class PeekTest {
     public static void main(String[] args) {
         Check check = new Check();
-        PartitionKernel x = new PartitionKernel();
-        two(x);
-        check.due("the first word", x.peek(0, 0), 11);
-        check.due("the last word", x.peek(0, 3), -14);
-        check.due("another region's first", x.peek(1, 0), 21);
-        check.due("once more", x.peek(0, 0), 11);
-        x.window(PartitionKernel.NONE, 1);
-        x.seal();
-        check.due("behind the seal", x.peek(0, 3), -14);
-        check.due("a word that a program puts", wordPutByProgram(), 9);
-        wrongInputs(check, PeekTest::two);
-        wrongInputs(check, k -> {
-            two(k);
-            k.window(0, 1);
-            k.seal();
-        });
+        check.sentence("Word i of a region.", PeekTest::wordOfRegion);
+        check.sentence("IllegalArgumentException: the partition is not told.", PeekTest::notTold);
+        check.sentence("IndexOutOfBoundsException: there is no such word.", PeekTest::noSuchWord);
         check.end();
     }
 
@@ -25,24 +12,54 @@ final class PeekTest {
         x.partition(0, 508, 4, 0, 0);
         x.partition(1, 500, 2, 0, 0);
         Check.put(x, 0, 11, 12, 13, -14);
-        Check.put(x, 1, 21, 22);
+        Check.put(x, 1, Check.LOWEST, Check.HIGHEST);
     }
 
-    private static int wordPutByProgram() {
-        PartitionKernel x = Check.alone(8, 0, Check.word(1, 1, 0, 9), Check.word(7, 1, 0, 5));
-        x.step(2);
-        return x.peek(0, 5);
+    private static void twoSealed(PartitionKernel x) {
+        two(x);
+        x.window(0, 1);
+        x.seal();
     }
 
-    private static void wrongInputs(Check check, Check.Call before) {
-        check.refused("not told", Check.ARGUMENT, before, x -> x.peek(2, 0));
-        check.refused("number -1", Check.ARGUMENT, before, x -> x.peek(-1, 0));
-        check.refused("number 6", Check.ARGUMENT, before, x -> x.peek(6, 0));
-        check.refused("not told, no word", Check.ARGUMENT, before, x -> x.peek(2, 600));
-        check.refused("word -1", Check.INDEX, before, x -> x.peek(0, -1));
-        check.refused("word 4 of 4", Check.INDEX, before, x -> x.peek(0, 4));
-        check.refused("word 2 of 2", Check.INDEX, before, x -> x.peek(1, 2));
-        check.refused("the highest", Check.INDEX, before, x -> x.peek(0, Integer.MAX_VALUE));
-        check.refused("the lowest", Check.INDEX, before, x -> x.peek(0, Integer.MIN_VALUE));
+    private static void allWords(Check check, String when, PartitionKernel x) {
+        int[] first = {11, 12, 13, -14};
+        for (int i = 0; i < 4; i++) {
+            check.due("peek(0, " + i + ") " + when, x.peek(0, i), first[i]);
+        }
+        check.due("peek(1, 0) " + when, x.peek(1, 0), Check.LOWEST);
+        check.due("peek(1, 1) " + when, x.peek(1, 1), Check.HIGHEST);
+    }
+
+    private static void wordOfRegion(Check check) {
+        PartitionKernel x = new PartitionKernel();
+        two(x);
+        allWords(check, "before the seal", x);
+        allWords(check, "once more", x);
+        x.window(PartitionKernel.NONE, 1);
+        x.seal();
+        x.step(7);
+        allWords(check, "behind the seal", x);
+        PartitionKernel program = Check.alone(8, 0, Op.set(1, 9), Op.store(1, 0, 5), Op.BAD);
+        program.step(2);
+        check.due("a word that a program puts", program.peek(0, 5), 9);
+        program.step(1);
+        check.due("that word when it is faulted", program.peek(0, 5), 9);
+    }
+
+    private static void notTold(Check check) {
+        for (int p : new int[] {2, 5, -1, 6, Check.LOWEST, Check.HIGHEST}) {
+            check.refused("peek(" + p + ", 0)", Check.ARGUMENT, PeekTest::two, x -> x.peek(p, 0));
+            check.refused("peek(" + p + ", 512)", Check.ARGUMENT, PeekTest::two, x -> x.peek(p, 512));
+            check.refused("sealed, peek(" + p + ", 0)", Check.ARGUMENT, PeekTest::twoSealed, x -> x.peek(p, 0));
+        }
+    }
+
+    private static void noSuchWord(Check check) {
+        int[][] none = {{0, -1}, {0, 4}, {1, -1}, {1, 2}, {1, 8}, {0, 508}, {0, Check.LOWEST}, {1, Check.HIGHEST}};
+        for (int[] c : none) {
+            String call = "peek(" + c[0] + ", " + c[1] + ")";
+            check.refused(call, Check.INDEX, PeekTest::two, x -> x.peek(c[0], c[1]));
+            check.refused("sealed, " + call, Check.INDEX, PeekTest::twoSealed, x -> x.peek(c[0], c[1]));
+        }
     }
 }
